@@ -589,32 +589,20 @@ public final class OctavianDesk {
         }
     }
 
-    /** The orders, told by the sets of indices that may be odd in halves; a set is an int with a bit an index. */
+    /** The orders, told by the sets of indices that may be odd in halves together; a set is an int, a bit an index. */
     private static final class Orders {
-        static final int ALL_INDICES = 255;
+        static final int ALL_INDICES = 0b11111111;
+        /** None, or 0 and a triple. The other eight sets are those that these leave out of all indices. */
+        static final int[] SETS = {0b00000000, 0b00010111, 0b00101101, 0b01011001,
+            0b10110001, 0b01100011, 0b11000101, 0b10001011};
 
         static int sets(int order) {
-            return order == 0 ? 1 : 16;
+            return order == 0 ? 1 : 2 * SETS.length;
         }
 
-        /** The sets 0 to 7 are the empty one and the triples with 0; 8 to 15 are what those leave. */
         static int oddSet(int order, int number) {
-            if (order == 0) {
-                return 0;
-            }
-            int triple = (number & 7) - 1;
-            int set = triple < 0 ? 0 : withZero(triple);
-            return exchanged(number < 8 ? set : ALL_INDICES ^ set, order);
-        }
-
-        static int withZero(int triple) {
-            int set = 1;
-            for (int t = 3 * triple; t < 3 * triple + 3; t++) {
-                if (t >= 0 && t < Rows.TRIPLES.length) {
-                    set |= 1 << Rows.TRIPLES[t];
-                }
-            }
-            return set;
+            int set = SETS[number & 7];
+            return exchanged(number < SETS.length ? set : ALL_INDICES ^ set, order);
         }
 
         static int exchanged(int set, int n) {
