@@ -380,7 +380,7 @@ public final class OctavianDesk {
     }
 
     private void needDivisible(int a, int b) {
-        if (!isInOrder(a) || !isInOrder(b) || Rows.quarters(now.registers[b]) == 0) {
+        if (!isInOrder(a) || !isInOrder(b) || Rows.isZero(now.registers[b])) {
             throw new IllegalStateException("not in the present order, or the divisor is 0");
         }
     }
@@ -410,7 +410,7 @@ public final class OctavianDesk {
     private int zeroRegisters() {
         int found = 0;
         for (int r = 0; r < REGISTERS; r++) {
-            if (Rows.quarters(now.registers[r]) == 0) {
+            if (Rows.isZero(now.registers[r])) {
                 found++;
             }
         }
@@ -428,7 +428,7 @@ public final class OctavianDesk {
 
     private boolean associates(int a, int b, int c) {
         workAssociator(a, b, c);
-        return Rows.quarters(result) == 0;
+        return Rows.isZero(result);
     }
 
     private long put(int to) {
@@ -553,8 +553,19 @@ public final class OctavianDesk {
             return sum;
         }
 
+        /** Only for rows that are no larger than a register's: the squares of an associator's do not fit into a long. */
         static long quarters(long[] row) {
             return inner(row, row);
+        }
+
+        /** Each number is looked at, as a sum of squares may wrap round to 0. */
+        static boolean isZero(long[] row) {
+            for (int i = 0; i < LENGTH; i++) {
+                if (row[i] != 0) {
+                    return false;
+                }
+            }
+            return true;
         }
 
         static int oddSet(long[] row) {
@@ -800,7 +811,7 @@ public final class OctavianDesk {
             Rows.copy(b, divisor);
             for (int done = 1; done <= most; done++) {
                 work(dividend, divisor, order);
-                if (Rows.quarters(remainder) == 0) {
+                if (Rows.isZero(remainder)) {
                     return done;
                 }
                 Rows.copy(divisor, dividend);

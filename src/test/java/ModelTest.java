@@ -841,7 +841,7 @@ public final class ModelTest {
         "add", "add", "add", "multiply", "multiply", "conjugate", "commutator", "commutator", "associator", "associator",
         "divide", "divide", "divide", "coordinate", "norm", "dot", "ordersOf", "left", "unitOf", "value", "dimension",
         "dimension", "commute", "associate", "steps", "lastNorm", "commuting", "append", "clearText", "carryOut", "undo",
-        "undo", "digest", "text", "text", "text", "whole"};
+        "undo", "digest", "text", "text", "text", "whole", "powers"};
 
     private static int[] argumentsOf(String name) {
         int[] x = {someRegister(), someRegister(), someRegister(), someRegister(), 0, 0};
@@ -892,6 +892,8 @@ public final class ModelTest {
                 }
                 calls.add(text);
                 compare(desk, model, "carryOut", new int[0], calls);
+            } else if (name.equals("powers")) {
+                comparePowers(desk, model, calls);
             } else if (name.equals("whole")) {
                 // Rows of even halves are in every order, and large ones make long divisions.
                 int to = below(8);
@@ -908,6 +910,28 @@ public final class ModelTest {
                 compare(desk, model, name, argumentsOf(name), calls);
             }
         }
+    }
+
+    /** Sums of squares of high powers of 2 can wrap round to 0, which no answer may show. */
+    private static void comparePowers(OctavianDesk desk, Model model, List<String> calls) {
+        int power = 1 << from(7, 10);
+        for (int to = 0; to < 3; to++) {
+            for (int upper = 0; upper < 2; upper++) {
+                int[] x = {to, upper, 0, 0, 0, 0};
+                for (int i = 2; i < 6; i++) {
+                    x[i] = below(3) == 0 ? power * from(-1, 1) : 0;
+                }
+                compare(desk, model, "setFour", x, calls);
+            }
+        }
+        compare(desk, model, "associate", new int[] {0, 1, 2}, calls);
+        compare(desk, model, "dimension", new int[] {7}, calls);
+        compare(desk, model, "associator", new int[] {0, 1, 2, 3}, calls);
+        compare(desk, model, "commutator", new int[] {0, 1, 4}, calls);
+        compare(desk, model, "commute", new int[] {0, 1}, calls);
+        compare(desk, model, "commuting", new int[] {0}, calls);
+        compare(desk, model, "steps", new int[] {0, 1}, calls);
+        compare(desk, model, "lastNorm", new int[] {1, 2}, calls);
     }
 
     // ---- the counts of elements by norm, as products of series

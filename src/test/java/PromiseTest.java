@@ -585,10 +585,33 @@ public final class PromiseTest {
         is("with their difference", d.dimension(112), 4);
         d.set(6, 7, 1985);
         is("with another one", d.dimension(112), 8);
+        dimensionOfLargeOnes();
         refuses(d, ARGUMENT, () -> d.dimension(0));
         refuses(d, ARGUMENT, () -> d.dimension(256));
         refuses(d, ARGUMENT, () -> d.dimension(-1));
         refuses(d, ARGUMENT, () -> d.dimension(Integer.MIN_VALUE));
+    }
+
+    /** Three that do not associate, with associators whose squares add up to multiples of 2 to the 64th. */
+    private static OctavianDesk largeOnes(int x, int y, int z) {
+        OctavianDesk d = new OctavianDesk();
+        put(d, 0, 0, x, x, 0, 0, 0, 0, 0);
+        put(d, 1, 0, y, -y, 0, 0, 0, 0, 0);
+        put(d, 2, 0, 0, 0, z, 0, 0, 0, 0);
+        return d;
+    }
+
+    private static final int[][] LARGE = {{1024, 1024, 1024}, {-1024, 1024, 1024}, {1024, 1536, 1024}, {512, 1024, -1024}, {2000, 2000, 2000}};
+
+    private static void dimensionOfLargeOnes() {
+        for (int[] x : LARGE) {
+            OctavianDesk d = largeOnes(x[0], x[1], x[2]);
+            is("large ones", d.dimension(7), 8);
+            is("two of the large ones", d.dimension(3), 4);
+            is("e0 and the third of the large ones", d.dimension(4), 2);
+            put(d, 2, 1024, 0, 0, 0, 1024, 0, 0, 0);
+            is("one in the subalgebra of the two", d.dimension(7), 4);
+        }
     }
 
     private static void commuteAndAssociate() {
@@ -612,6 +635,13 @@ public final class PromiseTest {
         is("large ones", d.associate(1, 2, 4), true);
         d.set(4, 3, 1);
         is("large ones and a half", d.associate(1, 2, 4), false);
+        for (int[] x : LARGE) {
+            OctavianDesk large = largeOnes(x[0], x[1], x[2]);
+            is("large ones whose squares wrap round", large.associate(0, 1, 2), false);
+            is("the same ones turned", large.associate(2, 0, 1), false);
+            is("two of them", large.associate(0, 1, 0), true);
+            refuses(large, ARITHMETIC, () -> large.associator(0, 1, 2, 3));
+        }
         for (int r : NO_REGISTERS) {
             promise = 20;
             refuses(d, INDEX, () -> d.commute(r, 0));
