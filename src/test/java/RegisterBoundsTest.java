@@ -559,6 +559,14 @@ public final class RegisterBoundsTest {
                 }
             }
         }
+        Checks.sentence("Promise 10: ArithmeticException for the largest results too: no low bits of them may fit");
+        for (int size : new int[] {256, 512, 1024, 1536, 2000}) {
+            long[] a = {0, size, size, 0, 0, 0, 0, 0};
+            long[] b = {0, size, -size, 0, 0, 0, 0, 0};
+            associatorIsRefused(a, b, Checks.only(3, size));
+            associatorIsRefused(b, a, Checks.only(3, size));
+            associatorIsRefused(Checks.only(1, size), Checks.only(2, size), Checks.only(3, -size));
+        }
         Checks.sentence("Promise 10: undoable, even if it changes nothing");
         Checks.undoable(NEW, d -> d.associator(1, 2, 3, 4));
         Checks.undoable(d -> d.set(1, 1, 0), d -> d.associator(2, 3, 5, 1));
