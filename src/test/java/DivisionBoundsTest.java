@@ -1,3 +1,6 @@
+import java.util.Arrays;
+import java.util.List;
+
 /** The boundaries of the promises 11, 23 and 24, and of what the terms say of division. */
 public final class DivisionBoundsTest {
     private static final Checks.Script NEW = d -> { };
@@ -19,6 +22,7 @@ public final class DivisionBoundsTest {
         remainderLimits();
         nearest();
         ties();
+        nearestOfAll();
         ontoItself();
         counted();
         stepsRanges();
@@ -26,6 +30,7 @@ public final class DivisionBoundsTest {
         stepsEnds();
         stepsFortyAndMore();
         stepsNeedNotFit();
+        stepsByDivide();
         Checks.end("DivisionBoundsTest");
     }
 
@@ -290,6 +295,69 @@ public final class DivisionBoundsTest {
         }
     }
 
+    /** Some rows of an order, the same ones in each run: the halves of a unit, and whole numbers of a size. */
+    private static long[] some(int order, List<long[]> units, int number, int size) {
+        long[] row = units.get(number % units.size()).clone();
+        long code = 40503L * (number + 1) * (order + 11);
+        for (int i = 0; i < 8; i++) {
+            code = code * 6364136223846793005L + 1442695040888963407L;
+            row[i] += 2 * ((code >>> 33) % (2 * size + 1) - size);
+        }
+        return row;
+    }
+
+    /**
+     * In each order the cells around what is nearest are bounded by the units, and what lies equally near is joined by
+     * units: so a quotient is the one that is due if no unit more makes it nearer, or as near with a row that comes first.
+     */
+    private static void nearestOfAll() {
+        Checks.sentence("Terms, Division: the nearest element, and the first of several, for a and b of any size");
+        int[][] sizes = {{3, 1}, {20, 1}, {20, 3}, {300, 20}, {900, 100}, {900, 300}, {5, 300}};
+        int divided = 0;
+        for (int order = 0; order < 8; order++) {
+            List<long[]> units = Checks.unitsOf(order);
+            for (int n = 0; n < 210; n++) {
+                long[] a = some(order, units, 7 * n + 1, sizes[n % 7][0]);
+                long[] b = some(order, units, 11 * n + 5, sizes[n % 7][1]);
+                OctavianDesk d = two(order, a, b);
+                Class<?> thrown = Checks.square(b) == 0 ? Checks.STATE : Checks.thrownBy(d, x -> x.divide(0, 1, 2, 3));
+                if (thrown == null) {
+                    divided++;
+                    isNearest(d, units, a, b);
+                }
+            }
+        }
+        Checks.is("whether most of them are divided", divided > 1600, true);
+    }
+
+    private static void isNearest(OctavianDesk d, List<long[]> units, long[] a, long[] b) {
+        long[] q = new long[8];
+        for (int i = 0; i < 8; i++) {
+            q[i] = d.coordinate(2, i);
+        }
+        Checks.row(d, 3, Checks.plus(a, Checks.negative(Checks.halved(Checks.product(q, b)))));
+        long[] sought = Checks.product(a, Checks.with(Checks.negative(b), 0, b[0]));
+        long norm = Checks.square(b);
+        long far = farOff(q, sought, norm);
+        boolean nearest = true;
+        for (long[] unit : units) {
+            long[] other = Checks.plus(q, unit);
+            long otherFar = farOff(other, sought, norm);
+            nearest &= far < otherFar || far == otherFar && Arrays.compare(q, other) < 0;
+        }
+        Checks.is("whether " + Arrays.toString(q) + " is the quotient of " + Arrays.toString(a) + " by " + Arrays.toString(b), nearest, true);
+    }
+
+    /** The squared distance in halves, times the squared norm. */
+    private static long farOff(long[] q, long[] sought, long norm) {
+        long sum = 0;
+        for (int i = 0; i < 8; i++) {
+            long off = norm * q[i] - 2 * sought[i];
+            sum += off * off;
+        }
+        return sum;
+    }
+
     // ---- promise 11: where the results go, and what is counted
 
     private static void ontoItself() {
@@ -421,5 +489,36 @@ public final class DivisionBoundsTest {
         for (int order = 0; order < 8; order++) {
             isEuclid(order, a, ALL, 4, 4);
         }
+    }
+
+    /** Each step made by divide() itself, on a desk of its own. */
+    private static void stepsByDivide() {
+        Checks.sentence("Promises 23 and 24: each step is a division as divide() makes it, and the last divisor is told");
+        int ended = 0;
+        for (int order = 0; order < 8; order++) {
+            List<long[]> units = Checks.unitsOf(order);
+            for (int n = 0; n < 40; n++) {
+                long[] a = some(order, units, 13 * n + 2, n % 2 == 0 ? 60 : 2);
+                long[] b = some(order, units, 17 * n + 3, 20);
+                OctavianDesk d = two(order, a, b);
+                Checks.put(d, 4, new long[8]);
+                int steps = d.steps(0, 1);
+                long last = d.lastNorm(0, 1);
+                long divisor = 0;
+                long remainder = 1;
+                int done = 0;
+                while (done < 40 && remainder != 0) {
+                    divisor = d.norm(1);
+                    remainder = d.divide(0, 1, 2, 3);
+                    d.add(1, 4, 0, false);
+                    d.add(3, 4, 1, false);
+                    done++;
+                }
+                ended += remainder == 0 ? 1 : 0;
+                Checks.is("steps", steps, remainder == 0 ? done : OctavianDesk.NONE);
+                Checks.is("lastNorm", last, remainder == 0 ? divisor : OctavianDesk.NONE);
+            }
+        }
+        Checks.is("whether most of them end", ended > 250, true);
     }
 }

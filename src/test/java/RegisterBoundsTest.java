@@ -8,6 +8,7 @@ public final class RegisterBoundsTest {
     public static void main(String[] args) {
         newDesk();
         lastCall();
+        sums();
         products();
         setRanges();
         setAnswers();
@@ -81,6 +82,22 @@ public final class RegisterBoundsTest {
             Checks.is("carryOut", e.carryOut(), 1);
         }
         Checks.is("the multiplications of a desk's last call", e.value(2), 48L * (512 - text.length() - 2));
+    }
+
+    private static void sums() {
+        Checks.sentence("Terms, Octonions: octonions are added coordinate by coordinate");
+        long[] a = {1, -20, 300, -1000, 5, 0, -7, 1999};
+        long[] b = {999, 21, -301, -1000, 5, -6, 2000, 1};
+        OctavianDesk d = withTwo(a, b);
+        Checks.is("a + b", d.add(2, 3, 4, false), Checks.square(Checks.plus(a, b)));
+        Checks.row(d, 4, 1000, 1, -1, -2000, 10, -6, 1993, 2000);
+        Checks.is("b + a", d.add(3, 2, 4, false), Checks.square(Checks.plus(a, b)));
+        Checks.row(d, 4, 1000, 1, -1, -2000, 10, -6, 1993, 2000);
+        d.set(3, 6, 1993);
+        d.add(2, 3, 4, true);
+        Checks.row(d, 4, -998, -41, 601, 0, 0, 6, -2000, 1998);
+        d.add(3, 2, 4, true);
+        Checks.row(d, 4, 998, 41, -601, 0, 0, -6, 2000, -1998);
     }
 
     private static void products() {

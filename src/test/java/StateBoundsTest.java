@@ -307,27 +307,28 @@ public final class StateBoundsTest {
 
     private static void digestOfText() {
         Checks.sentence("Promise 30: the length of the text, from 0 to 100, and not its bytes");
-        OctavianDesk d = new OctavianDesk();
-        Checks.is("digest", d.digest(), hashOf(d, 0, 0));
-        for (int n = 1; n <= 100; n++) {
-            d.append(n);
-            if (n % 25 == 0 || n == 1) {
-                Checks.is("digest", d.digest(), hashOf(d, n, 0));
+        for (int length : new int[] {0, 1, 2, 25, 50, 99, 100}) {
+            OctavianDesk d = new OctavianDesk();
+            for (int n = 1; n <= length; n++) {
+                d.append(n);
             }
+            Checks.is("digest", d.digest(), hashOf(d, length, 0));
         }
         Checks.is("digest of two texts of the same length", Checks.desk(FULL).digest(), Checks.desk(x -> Checks.write(x, "?".repeat(100))).digest());
     }
 
     private static void digestOfSaved() {
         Checks.sentence("Promise 30: the number of saved states, from 0 to 4");
-        OctavianDesk d = new OctavianDesk();
-        for (int n = 1; n <= 6; n++) {
-            Checks.is("digest", d.digest(), hashOf(d, 0, Math.min(n - 1, 4)));
-            if (n <= 3) {
-                d.set(0, 1, n);
-            } else {
-                d.conjugate(0);
+        for (int calls = 0; calls <= 6; calls++) {
+            OctavianDesk d = new OctavianDesk();
+            for (int n = 1; n <= calls; n++) {
+                if (n <= 3) {
+                    d.set(0, 1, n);
+                } else {
+                    d.conjugate(0);
+                }
             }
+            Checks.is("digest", d.digest(), hashOf(d, 0, Math.min(calls, 4)));
         }
         OctavianDesk e = new OctavianDesk();
         for (int n = 1; n <= 6; n++) {
