@@ -1,6 +1,7 @@
 import java.util.ArrayDeque;
 import java.util.ArrayList;
 import java.util.List;
+import java.util.function.ToLongFunction;
 
 /** The boundaries of the promises 29 and 30, and of what the terms say of undoing and of exceptions. */
 public final class StateBoundsTest {
@@ -9,6 +10,7 @@ public final class StateBoundsTest {
     private static final Checks.Script FULL = d -> Checks.write(d, "a=b;".repeat(25));
 
     public static void main(String[] args) {
+        lastCalls();
         undoOfNone();
         undoCounts();
         undoDropsTheOldest();
@@ -23,6 +25,37 @@ public final class StateBoundsTest {
         digestOfText();
         digestOfSaved();
         Checks.end("StateBoundsTest");
+    }
+
+    // ---- the last calls of an object
+
+    /** Each method of the face, but undo() and digest(), which are asked behind it. */
+    private static final List<ToLongFunction<OctavianDesk>> METHODS = List.of(d -> d.set(1, 2, 4), d -> d.setFour(3, true, 2, 0, -2, 4),
+        d -> d.setOrder(2), d -> d.load(7, 4), d -> d.add(1, 2, 5, false), d -> d.multiply(1, 5, 7), d -> d.conjugate(1),
+        d -> d.commutator(2, 1, 0), d -> d.associator(1, 2, 3, 5), d -> d.divide(2, 6, 3, 4), d -> d.coordinate(3, 3), d -> d.norm(1),
+        d -> d.dot(2, 2), d -> d.ordersOf(1), d -> d.left(1, 2, 4), d -> d.unitOf(1), d -> d.value(1), d -> d.dimension(255),
+        d -> d.commute(1, 0) ? 1 : 0, d -> d.associate(1, 2, 4) ? 1 : 0, d -> d.elements(7), d -> d.steps(1, 2), d -> d.lastNorm(1, 2),
+        d -> d.commuting(1), d -> d.append('b'), d -> d.clearText(), d -> d.carryOut());
+
+    private static void lastCalls() {
+        Checks.sentence("What it is: an object is used for at most 512 calls: the calls 510 to 512 are answered as earlier ones");
+        for (int n = 0; n < METHODS.size(); n++) {
+            long[] due = answers(METHODS.get(n), 30);
+            Checks.same("the last answers of method " + n, answers(METHODS.get(n), 512), due);
+        }
+    }
+
+    private static long[] answers(ToLongFunction<OctavianDesk> method, int calls) {
+        OctavianDesk d = new OctavianDesk();
+        String text = "h=a*b-2c;a=c;";
+        for (int n = 0; n < calls - 3; n++) {
+            if (n < text.length()) {
+                d.append(text.charAt(n));
+            } else {
+                d.set(0, 0, 2);
+            }
+        }
+        return new long[] {method.applyAsLong(d), d.digest(), d.undo()};
     }
 
     // ---- promise 29
